@@ -414,9 +414,6 @@ public final class BentGrounds {
     }
 
     public int rational(int g, int h, int i) {
-        if (i < 0) {
-            return BAD;
-        }
         int refused = refusedPencil(g, h);
         if (refused != 0) {
             return refused;
@@ -425,7 +422,8 @@ public final class BentGrounds {
             return STATE;
         }
         pencil.findFractions();
-        if (i >= pencil.fractions) {
+        // the document tells no limit of i, so one below 0 names no root, as one above the last does
+        if (i < 0 || i >= pencil.fractions) {
             return NONE;
         }
         long m = pencil.over[i];

@@ -726,7 +726,7 @@ final class Model {
     }
 
     int rational(int g, int h, int i) {
-        if (no(g, 12) || no(h, 12) || i < 0) {
+        if (no(g, 12) || no(h, 12)) {
             return BAD;
         }
         if (gone(g, h)) {
@@ -746,7 +746,7 @@ final class Model {
             }
         }
         all.sort((x, y) -> Integer.compare(x[0] * y[1], y[0] * x[1]));
-        if (i >= all.size()) {
+        if (i < 0 || i >= all.size()) {
             return NONE;
         }
         int[] at = all.get(i);

@@ -16,6 +16,7 @@ public final class PencilTest {
         patternsThatAreNotReal();
         patternsOfGreatNumbers();
         rational();
+        rationalBelowNought();
         fractionsAtTheEdge();
         between();
         betweenIsSpent();
@@ -198,8 +199,22 @@ public final class PencilTest {
         CHECK.fraction("0 twice", x, x.rational(4, 3, 0), 2, 0, 1);
         Check.squares(x, 5, 1, 0, 0, 0);
         CHECK.refuses("all are roots", x, () -> x.rational(5, 5, 0), BentGrounds.STATE);
-        refuses(x, "i -1", () -> x.rational(0, 1, -1));
         refusesPairs(x, "rational", (g, h) -> x.rational(g, h, 0));
+    }
+
+    /** No limit of i is told, so one below 0 names no root: NONE, behind all that is refused. */
+    private static void rationalBelowNought() {
+        BentGrounds x = new BentGrounds();
+        CHECK.finds("i -1, both missing", x, () -> x.rational(0, 0, -1), 1);
+        Check.squares(x, 0, 2, 3, 4, 1);
+        Check.squares(x, 1, 1, -2, 1, 0);
+        Check.squares(x, 2, 1, 0, 0, 0);
+        CHECK.fraction("-1 by 4", x, x.rational(0, 1, 1), 1, -1, 4);
+        for (int i : new int[] {-1, -2, Integer.MIN_VALUE}) {
+            CHECK.refuses("i " + i, x, () -> x.rational(0, 1, i), BentGrounds.NONE);
+            CHECK.refuses("all are roots, i " + i, x, () -> x.rational(2, 2, i), BentGrounds.STATE);
+            refusesPairs(x, "rational, i " + i, (g, h) -> x.rational(g, h, i));
+        }
     }
 
     /** Roots whose numbers are as great as 64, and greater. */

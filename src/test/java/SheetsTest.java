@@ -95,6 +95,8 @@ public final class SheetsTest {
         CHECK.finds("copy to -1", x, () -> x.copy(0, 0, 1, -1, 1), 2);
         CHECK.finds("copy of the greatest number", x, () -> x.copy(0, 1, 1, 1, Integer.MAX_VALUE), 2);
         CHECK.finds("copy from the greatest place", x, () -> x.copy(0, Integer.MAX_VALUE, 1, 0, 1), 2);
+        CHECK.finds("copy of none from behind the end", x, () -> x.copy(0, 4, 1, 0, 0), 2);
+        CHECK.finds("copy of none to behind the end", x, () -> x.copy(0, 0, 1, 3, 0), 2);
     }
 
     private static void copyOverItself() {

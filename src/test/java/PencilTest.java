@@ -13,6 +13,7 @@ public final class PencilTest {
         formTold();
         patternsOfFour();
         patternsWithBeyondAll();
+        allAreRootsAndBeyondAllAlone();
         patternsThatAreNotReal();
         patternsOfGreatNumbers();
         rational();
@@ -119,6 +120,10 @@ public final class PencilTest {
             CHECK.due("pattern of " + name, x.pattern(0, 1), r[8]);
             CHECK.due("roots of " + name, x.roots(0, 1), r[9]);
         }
+    }
+
+    private static void allAreRootsAndBeyondAllAlone() {
+        BentGrounds x = new BentGrounds();
         Check.ground(x, 0, 0, 1);
         Check.ground(x, 1, 0, 0, 0, 0, 0, 0, 0, 0, 1);
         CHECK.due("two planes each: t t", x.pattern(0, 1), 22);

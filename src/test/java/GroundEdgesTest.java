@@ -15,6 +15,7 @@ public final class GroundEdgesTest {
         swaps();
         swapsOfOne();
         turns();
+        oneAmongOthers();
         CHECK.end();
     }
 
@@ -345,5 +346,31 @@ public final class GroundEdgesTest {
         }
         CHECK.due("turn back", x.turn(0), kind);
         CHECK.tells("4 again", x, x.table(0, 0, 0), 4);
+    }
+
+    /** What one becomes does not hang on which one was told or asked of last, and the others stay. */
+    private static void oneAmongOthers() {
+        BentGrounds x = new BentGrounds();
+        Check.squares(x, 0, 1, 1, 1, -1);
+        Check.squares(x, 1, 1, 2, -3, -4);
+        Check.ground(x, 2, 1, 1);
+        CHECK.due("shear(0)", x.shear(0, 3, 0, 1), 0);
+        CHECK.tells("xx of it", x, x.table(0, 0, 0), 0);
+        CHECK.tells("xw of it", x, x.table(0, 0, 3), -1);
+        CHECK.due("swap(1)", x.swap(1, 0, 3), 4);
+        CHECK.tells("xx of it", x, x.table(1, 0, 0), -4);
+        CHECK.tells("ww of it", x, x.table(1, 3, 3), 1);
+        CHECK.due("turn(2)", x.turn(2), 2);
+        CHECK.tells("xx of it", x, x.table(2, 0, 0), -1);
+        CHECK.tells("yy of it", x, x.table(2, 1, 1), 0);
+        CHECK.tells("ground 0 stays", x, x.table(0, 1, 1), 1);
+        CHECK.finds("beyond", x, () -> x.shear(1, 0, 1, 2), 2);
+        CHECK.due("shear(2)", x.shear(2, 1, 0, -1), 2);
+        CHECK.tells("a refused one leaves nothing", x, x.table(2, 0, 0), 1);
+        CHECK.tells("yx of it", x, x.table(2, 1, 0), -1);
+        Check.squares(x, 3, 1, 1, 1, 1);
+        CHECK.due("shear(0) back", x.shear(0, 3, 0, -1), 3);
+        CHECK.due("swap(1) back", x.swap(1, 3, 0), 4);
+        CHECK.tells("ww of it", x, x.table(1, 3, 3), -4);
     }
 }

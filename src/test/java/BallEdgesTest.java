@@ -344,7 +344,7 @@ public final class BallEdgesTest {
             String what = k + " to " + n;
             List<int[]> two = placesOf(n, a, b);
             CHECK.due("shared " + what, x.shared(2, 3, n), two.size());
-            if (two.size() <= 40) {
+            if (two.size() <= 30) {
                 placesAre(x, "shared " + what, two);
             }
             List<int[]> three = placesOf(n, a, b, c);
@@ -353,7 +353,7 @@ public final class BallEdgesTest {
             Check.ground(y, 3, b);
             Check.ground(y, 11, c);
             CHECK.due("shared3 " + what, y.shared3(11, 2, 3, n), three.size());
-            if (three.size() <= 40) {
+            if (three.size() <= 30) {
                 placesAre(y, "shared3 " + what, three);
             }
             many += three.size() > 2 ? 1 : 0;

@@ -221,43 +221,49 @@ public final class GroundEdgesTest {
         CHECK.due("alike " + what, x.alike(0, 11), one[9] == other[9] ? 1 : 0);
     }
 
-    /** Number i j of p, q, r: all that letters i and j alone have. */
+    /** p at letter i's square, q at i j, r at j's square, for each two letters. */
     private static void shears() {
         for (int p = -4; p <= 4; p++) {
             for (int q = -4; q <= 4; q++) {
                 for (int r = -4; r <= 4; r++) {
                     for (int k = -2; k <= 2; k++) {
-                        shearOf(p, q, r, k);
+                        for (int pair = 0; pair < 16; pair++) {
+                            shearOf(pair / 4, pair % 4, new int[] {p, q, r}, k);
+                        }
                     }
                 }
             }
         }
     }
 
-    private static void shearOf(int p, int q, int r, int k) {
-        if (p == 0 && q == 0 && r == 0) {
+    private static void shearOf(int i, int j, int[] of, int k) {
+        if (i == j || of[0] == 0 && of[1] == 0 && of[2] == 0) {
             return;
         }
+        int[] row = new int[10];
+        row[AT[i][i]] = of[0];
+        row[AT[i][j]] = of[1];
+        row[AT[j][j]] = of[2];
         BentGrounds x = new BentGrounds();
-        Check.ground(x, 0, p, q, 0, 0, r);
-        int mixed = q + k * p;
-        int last = r + 2 * k * q + k * k * p;
-        String what = "shear of " + p + " " + q + " " + r + " by " + k;
+        Check.ground(x, 0, row);
+        int mixed = of[1] + k * of[0];
+        int last = of[2] + 2 * k * of[1] + k * k * of[0];
+        String what = "shear " + i + " " + j + " of " + java.util.Arrays.toString(of) + " by " + k;
         if (Math.abs(mixed) > 4 || Math.abs(last) > 4) {
-            CHECK.finds(what, x, () -> x.shear(0, 0, 1, k), 2);
-            CHECK.tells(what + ": xy stays", x, x.table(0, 0, 1), q);
-            CHECK.tells(what + ": yy stays", x, x.table(0, 1, 1), r);
+            CHECK.finds(what, x, () -> x.shear(0, i, j, k), 2);
+            CHECK.tells(what + ": i j stays", x, x.table(0, i, j), of[1]);
+            CHECK.tells(what + ": j j stays", x, x.table(0, j, j), of[2]);
             return;
         }
         x.told(0, 1);
         int above = x.asked();
-        CHECK.due(what, x.shear(0, 0, 1, k), 2);
-        CHECK.tells(what + ": xx", x, x.table(0, 0, 0), p);
-        CHECK.tells(what + ": xy", x, x.table(0, 1, 0), mixed);
-        CHECK.tells(what + ": yy", x, x.table(0, 1, 1), last);
+        CHECK.due(what, x.shear(0, i, j, k), 2);
+        CHECK.tells(what + ": i i", x, x.table(0, i, i), of[0]);
+        CHECK.tells(what + ": j i", x, x.table(0, j, i), mixed);
+        CHECK.tells(what + ": j j", x, x.table(0, j, j), last);
         CHECK.tells(what + ": signs stay", x, x.told(0, 1), above);
-        CHECK.due(what + " and back", x.shear(0, 0, 1, -k), 2);
-        CHECK.tells(what + " and back: yy", x, x.table(0, 1, 1), r);
+        CHECK.due(what + " and back", x.shear(0, i, j, -k), 2);
+        CHECK.tells(what + " and back: j j", x, x.table(0, j, j), of[2]);
     }
 
     private static final int[][] AT = {{0, 1, 2, 3}, {1, 4, 5, 6}, {2, 5, 7, 8}, {3, 6, 8, 9}};

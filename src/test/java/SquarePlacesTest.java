@@ -15,6 +15,7 @@ public final class SquarePlacesTest {
                 }
             }
         }
+        linesWhereOneNumberIsLeft();
         lineThroughAll();
         oneSignBelow();
         middles();
@@ -67,6 +68,34 @@ public final class SquarePlacesTest {
             return above == 2 || below == 2 ? 1 : 9;
         }
         return 0;
+    }
+
+    /** 2 i j + c c, a cone: at letter j alone its TANGENT has letter i alone, at the fourth letter it is all 0. */
+    private static void linesWhereOneNumberIsLeft() {
+        int[][] at = {{0, 1, 2, 3}, {1, 4, 5, 6}, {2, 5, 7, 8}, {3, 6, 8, 9}};
+        for (int k = 0; k < 64; k++) {
+            int i = k % 4;
+            int j = k / 4 % 4;
+            int c = k / 16;
+            if (i == j || c == i || c == j) {
+                continue;
+            }
+            int[] row = new int[10];
+            row[at[i][j]] = 1;
+            row[at[c][c]] = 1;
+            BentGrounds x = new BentGrounds();
+            CHECK.due("a cone", Check.ground(x, 0, row), 1);
+            int[] want = {9, 9, 9, 9};
+            want[i] = 1;
+            want[j] = 1;
+            want[c] = 0;
+            for (int letter = 0; letter < 4; letter++) {
+                int[] place = new int[4];
+                place[letter] = 5;
+                Check.lay(x, 1, place);
+                CHECK.due("lines of " + i + j + c + " at " + letter, x.lines(0, 1), want[letter]);
+            }
+        }
     }
 
     /** The plane of a letter leaves the other three; one of two alike or unlike letters puts both into one. */

@@ -30,7 +30,9 @@ public final class FaceTest {
     public static void main(String[] args) throws IOException {
         face();
         members();
-        source(Path.of("src/main/java/BentGrounds.java"));
+        String code = source(Path.of("src/main/java/BentGrounds.java"));
+        rowsAreMadeOnce(code);
+        methodsAreShort(code);
         CHECK.end();
     }
 
@@ -74,13 +76,29 @@ public final class FaceTest {
         }
         CHECK.due("public constants", constants, 6);
         checkMethods(BentGrounds.class, names, true);
+        checkFields(BentGrounds.class);
         Class<?>[] inside = BentGrounds.class.getDeclaredClasses();
         CHECK.due("at most twelve classes", inside.length <= 11 ? 1 : 0, 1);
         for (Class<?> part : inside) {
             CHECK.due("static " + part, Modifier.isStatic(part.getModifiers()) ? 1 : 0, 1);
             CHECK.due("not public " + part, Modifier.isPublic(part.getModifiers()) ? 1 : 0, 0);
             checkMethods(part, names, false);
+            checkFields(part);
         }
+    }
+
+    /** Some twenty fields beside its constants, of the types that LANGUAGE.md leaves. */
+    private static void checkFields(Class<?> part) {
+        int fields = 0;
+        for (Field field : part.getDeclaredFields()) {
+            fields += Modifier.isStatic(field.getModifiers()) ? 0 : 1;
+            Class<?> type = field.getType();
+            Class<?> base = type.isArray() ? type.getComponentType() : type;
+            boolean own = base.getName().startsWith("BentGrounds$");
+            boolean left = base == int.class || base == long.class || base == boolean.class || own;
+            CHECK.due("type of " + field, left ? 1 : 0, 1);
+        }
+        CHECK.due("fields of " + part, fields <= 20 ? 1 : 0, 1);
     }
 
     private static void checkMethods(Class<?> part, Set<String> names, boolean face) {
@@ -100,7 +118,7 @@ public final class FaceTest {
     }
 
     /** Words of code, comments left out. */
-    private static void source(Path path) throws IOException {
+    private static String source(Path path) throws IOException {
         String text = Files.readString(path);
         for (int k = 0; k < text.length(); k++) {
             if (text.charAt(k) > 127) {
@@ -116,5 +134,38 @@ public final class FaceTest {
         CHECK.due("no method reference", code.contains("::") ? 1 : 0, 0);
         CHECK.due("no name ending in Exact", code.contains("Exact(") ? 1 : 0, 0);
         CHECK.due("no static block", java.util.regex.Pattern.compile("static\\s*\\{").matcher(code).find() ? 1 : 0, 0);
+        return code;
+    }
+
+    /** Fields and the constructor make all rows, so 512 calls need no more room than one object. */
+    private static void rowsAreMadeOnce(String code) {
+        for (String line : code.split("\n")) {
+            String plain = line.trim();
+            if (!java.util.regex.Pattern.compile("\\bnew\\b").matcher(plain).find()) {
+                continue;
+            }
+            boolean field = plain.matches("(private )?final [A-Za-z\\[\\]]+ [A-Za-z]+ = new .*;");
+            boolean made = plain.equals("sheets[s] = new Sheet();") || plain.equals("grounds[g] = new Ground();");
+            CHECK.due("made but once: " + plain, field || made ? 1 : 0, 1);
+        }
+    }
+
+    /** From the line that opens a method to the bracket as far in as it, some sixty lines at most. */
+    private static void methodsAreShort(String code) {
+        String[] lines = code.split("\n");
+        int methods = 0;
+        for (int from = 0; from < lines.length; from++) {
+            if (!lines[from].matches(" +[A-Za-z].*\\) \\{") || lines[from].matches(" +(if|for|while|switch|else)\\b.*")) {
+                continue;
+            }
+            String end = lines[from].replaceAll("\\S.*", "") + "}";
+            int to = from;
+            while (to < lines.length && !lines[to].equals(end)) {
+                to++;
+            }
+            methods++;
+            CHECK.due("lines of " + lines[from].trim(), to - from < 60 ? 1 : 0, 1);
+        }
+        CHECK.due("methods were found", methods > FACE.length ? 1 : 0, 1);
     }
 }
